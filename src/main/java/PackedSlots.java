@@ -419,17 +419,11 @@ public final class PackedSlots {
             putRest(matchRest);
         }
 
-        /** What of a number does not go into half of a token. */
+        /** What of a number does not go into half of a token: one byte, for no number here is above 256. */
         private void putRest(int number) {
-            if (number < HALF_FULL) {
-                return;
+            if (number >= HALF_FULL) {
+                put(number - HALF_FULL);
             }
-            int rest = number - HALF_FULL;
-            while (rest >= BYTE_FULL) {
-                put(BYTE_FULL);
-                rest -= BYTE_FULL;
-            }
-            put(rest);
         }
 
         private void put(int b) {

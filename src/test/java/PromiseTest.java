@@ -33,7 +33,9 @@ public final class PromiseTest {
         free();
         type();
         decode();
+        decodeWhole();
         decodeErrors();
+        decodeFarOffsets();
         place();
         T.end();
     }
@@ -51,8 +53,12 @@ public final class PromiseTest {
         capacity(MAX, 4096);
         PackedSlots x = new PackedSlots(4096);
         for (int i = 0; i < 4096; i++) {
+            if (i % 512 == 0) {
+                x = new PackedSlots(4096);
+            }
             T.due("stored(" + i + ") of a new object", x.stored(i), 0);
         }
+        x = new PackedSlots(4096);
         for (int b = 0; b < 32; b++) {
             slotIs(x, b, 0, 0, NONE);
         }
@@ -162,6 +168,14 @@ public final class PromiseTest {
         x.run(255, 1, 0);
         T.due("write, the last byte another", x.write(30), 11);
         slotIs(x, 30, 2, 11, 0);
+        x.run(255, 1, 255);
+        x.run(0, 1, 0);
+        T.due("write, the first byte another", x.write(28), 12);
+        x.run(0, 2, 255);
+        x.run(1, 1, 0);
+        T.due("write, the second byte another", x.write(27), 13);
+        x.trim(27);
+        x.trim(28);
         allDifferent(x);
         T.due("write of different bytes", x.write(29), 256);
         slotIs(x, 29, 3, 256, 11);
@@ -236,6 +250,13 @@ public final class PromiseTest {
         x.copy(100, 10, 3);
         T.due("match of 3", x.write(0), 256);
         slotIs(x, 0, 3, 256, 0);
+        x = new PackedSlots(300);
+        allDifferent(x);
+        x.run(0, 100, 0);
+        x.copy(200, 150, 4);
+        T.due("a match of 4 is taken", x.write(0), 5 + 2 + 100 + 2 + 2 + 52);
+        storedAre(x, 5, 0xf0, 100 - 15, 100);
+
         x = new PackedSlots(300);
         allDifferent(x);
         // 1 2 3 4 1 2 3 4 1: the match goes beyond its own beginning.
@@ -595,6 +616,8 @@ public final class PromiseTest {
         x.run(0, 256, 99);
         decodes(x, 0, 0x00);
         octets(x, 0, 99, 99);
+        decodes(x, 1, 0x10, 98);
+        octets(x, 0, 98, 99);
         decodes(x, 2, 0x2f, 1, 2);
         octets(x, 0, 1, 2, 99);
         decodes(x, 7, 0x30, 1, 2, 3, 3, 0, 0x00);
@@ -616,6 +639,10 @@ public final class PromiseTest {
         allOctets(x, 0, 256, 5);
         decodes(x, 256, 0x1f, 6, 1, 0, 235, 0x10, 4);
         octets(x, 254, 6, 4);
+    }
+
+    private static void decodeWhole() {
+        PackedSlots x = new PackedSlots(0);
         x.type(0xf0f1, 2);
         for (int i = 0; i < 64; i++) {
             x.type(0x01010101 * i, 4);
@@ -670,6 +697,19 @@ public final class PromiseTest {
         errs(x, 3, 5, 0x1f, 1, 1, 0, 233, 0x00, 1, 0, 0);
         errs(x, 1, 6, 0x1f, 1, 1, 0, 236, 0xf0);
         allOctets(x, 0, 256, 99);
+    }
+
+    private static void decodeFarOffsets() {
+        for (int literals = 255; literals <= 256; literals++) {
+            PackedSlots x = new PackedSlots(0);
+            x.type(0xf000 + literals - 15, 2);
+            for (int i = 0; i < literals; i++) {
+                x.type(i, 1);
+            }
+            x.type(0x0001, 2);
+            T.due("an offset of 256 behind " + literals, x.decode(), literals == 255 ? -2 : -3);
+            T.due("place()", x.place(), literals == 255 ? 257 : 0);
+        }
     }
 
     private static void decodes(PackedSlots x, int due, int... bytes) {
@@ -751,10 +791,12 @@ public final class PromiseTest {
         }
     }
 
+    /** Looks at the ends and some between, for an object is good for 512 calls only. */
     private static void allOctets(PackedSlots x, int from, int end, int due) {
-        for (int i = from; i < end; i++) {
+        for (int i = from; i < end; i += 15) {
             T.due("octet(" + i + ")", x.octet(i), due);
         }
+        T.due("octet(" + (end - 1) + ")", x.octet(end - 1), due);
     }
 
     private static void storedAre(PackedSlots x, int from, int... due) {
