@@ -395,6 +395,14 @@ public final class StoreEdgesTest {
             T.slotIs(x, 5, PACKED, 12, 0);
             T.slotIs(x, 3, PACKED, 11, 12);
         });
+        T.test("what was in the old slot stays behind the new one", () -> {
+            PackedSlots x = trimmed(0, 36, 11, 12, 11);
+            placed(x, 2, 14, 12);
+            T.slotIs(x, 1, PACKED, 12, 0);
+            T.storedAre(x, 26, java.util.Arrays.copyOfRange(Given.smallPacked(11), 3, 11));
+            T.storedAre(x, 34, 0, 0);
+            T.freeIs(x, 10, 10, 1);
+        });
         T.test("a raw block by putting together", () -> {
             PackedSlots x = new PackedSlots(299);
             Given.smallBlock(x, 0, 22);
